@@ -542,7 +542,6 @@ public final class Retroboard {
 
     /** The cells of a board and how steps lead from one to the next. */
     private static final class Plan {
-        static final int UP_ALONG = 0;
         static final int ALL = 24;
         /** Up and down come first, then the other rows' and columns' steps, diagonals, knight's and camel's steps. */
         private static final int[] ROW_STEPS = {
@@ -970,7 +969,7 @@ public final class Retroboard {
                 int cell = plan.next[way * MOST_CELLS + king];
                 if (cell >= 0) {
                     int due = (own[side] >> cell & 1) != 0 ? 0 : 1;
-                    is &= Long.bitCount(strikers(cell, 1 - side)) == due;
+                    is = is && Long.bitCount(strikers(cell, 1 - side)) == due;
                 }
             }
             put(king, code);
@@ -1181,7 +1180,7 @@ public final class Retroboard {
             for (int k = 0; k < keyCount; k++) {
                 boolean is = false;
                 for (int i = 0; i < count; i++) {
-                    is |= lists[0][i] == keys[k];
+                    is = is || lists[0][i] == keys[k];
                 }
                 if (!is) {
                     return false;
@@ -1243,7 +1242,7 @@ public final class Retroboard {
             for (int kind = KING; kind < PAWN; kind++) {
                 int beyond = many[kind * 2 + side] - armies[kind * 2 + side];
                 if (beyond > 0) {
-                    is &= isBecome(kind);
+                    is = is && isBecome(kind);
                     lacking -= beyond;
                 }
             }

@@ -90,8 +90,11 @@ public final class OracleTest {
     }
 
     private void lay() {
-        switch (below(6)) {
+        switch (below(7)) {
             case 0:
+                layProved();
+                break;
+            case 2:
                 layPassing();
                 break;
             case 1:
@@ -141,6 +144,37 @@ public final class OracleTest {
             }
             make();
         }
+    }
+
+    /** A pawn that can only just have gone by two cells, for from the third row it would give check. */
+    private void layProved() {
+        int columns = 3 + below(4);
+        int rows = 5 + below(2);
+        same("board(" + columns + ", " + rows + ")", () -> x.board(columns, rows), () -> o.board(columns, rows));
+        int mover = below(2);
+        int column = 1 + below(columns - 2);
+        int aside = 1 - 2 * below(2);
+        int fourth = columns * (mover == 0 ? 3 : rows - 4);
+        put('p', mover, column + fourth);
+        put('p', 1 - mover, column + aside + fourth);
+        put('k', 1 - mover, column - aside + fourth);
+        for (char kind : "qrbnp".toCharArray()) {
+            int many = kind == 'p' ? 1 : below(8) == 0 ? 1 : 0;
+            same("army('" + kind + "', " + (1 - mover) + ", " + many + ")", () -> x.army(kind, 1 - mover, many), () -> o.army(kind, 1 - mover, many));
+        }
+        for (int i = below(3); i > 0; i--) {
+            put('p', mover, below(columns) + columns * (mover == 0 ? 1 : rows - 2));
+        }
+        if (below(5) == 0) {
+            condition();
+        }
+        same("turn(" + (1 - mover) + ")", () -> x.turn(1 - mover), () -> o.turn(1 - mover));
+        history();
+        solve();
+        make();
+        same("undo()", () -> x.undo(), () -> o.undo());
+        everyMove();
+        solve();
     }
 
     /** A king in a corner that a few men hunt: problems that have solutions, tries and duals. */
