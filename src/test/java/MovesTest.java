@@ -224,6 +224,12 @@ public final class MovesTest {
         Retroboard y = Due.bench(5, 5, 0, "Pb2 pc3 pc4");
         Due.go(y, 6, 11);
         Due.same("9: not behind one cell", "c3-c2 c4xb3", Due.list(y));
+        Retroboard v = Due.bench(4, 5, 0, "Pb2 Pd3 pc3");
+        Due.go(v, 5, 9);
+        Due.same("9: nor another pawn", "c3-c2", Due.list(v));
+        Retroboard u = Due.bench(4, 5, 0, "Pa2 pb2 Rd4 Kd5");
+        Due.go(u, 15, 14);
+        Due.same("9: nor from the cell 0", "b2-b1=Q b2-b1=R b2-b1=B b2-b1=N", Due.list(u).replace("+", ""));
         Retroboard z = Due.bench(5, 5, 0, "Rb2 pc4");
         Due.go(z, 6, 16);
         Due.same("9: nor a rook", false, Due.can(z, 17, 11));
@@ -273,6 +279,9 @@ public final class MovesTest {
         Due.same("13: stopped", false, Due.bench(5, 5, 0, "Ka1 ic5 Nb3").isCheck(0));
         Due.same("13: by a camel", true, Due.bench(5, 5, 0, "Ka1 cd2").isCheck(0));
         Due.same("13: by a king", true, Due.bench(5, 5, 0, "Ka1 kb2").isCheck(1));
+        for (String men : new String[] {"ra1 Ke1", "qa1 Ke5", "ba1 Ke5", "na1 Kb3", "ia1 Kc5", "ga1 Nd4 Ke5", "ca1 Kb4", "ka1 Kb2"}) {
+            Due.same("13: from the cell 0, " + men, true, Due.bench(5, 5, 0, men).isCheck(0));
+        }
         Due.same("13: not by its own", false, Due.bench(5, 5, 0, "Ka1 Ra5").isCheck(0));
     }
 
@@ -375,6 +384,7 @@ public final class MovesTest {
         pure("through the king", true, "Kb3 Re1 kb1");
         pure("a man of the other side beside, struck once", true, "Kc2 Nb3 Bb1 ka1");
         pure("and struck twice", false, "Kc2 Nb3 Bb1 Re1 ka1");
+        pure("struck twice on the cell 0 alone", false, "Kb3 Re1 Nc2 kb1");
         pure("no mate, but check", false, "Kb4 Re1 ka1");
         pure("stalemate", false, "Ke5 Qc2 ka1");
         pure("no king", false, "Qc2");
