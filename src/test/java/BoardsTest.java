@@ -15,7 +15,7 @@ public final class BoardsTest {
     }
 
     private static void newObject() {
-        Retroboard x = new Retroboard();
+        Bench x = new Bench();
         for (int cell = 0; cell < 25; cell++) {
             Due.same("1: at(" + cell + ")", '.', x.at(cell));
         }
@@ -32,7 +32,7 @@ public final class BoardsTest {
     }
 
     private static void board() {
-        Retroboard x = new Retroboard();
+        Bench x = new Bench();
         Due.same("2: 3 by 3", 9, x.board(3, 3));
         Due.same("2: 6 by 6", 36, x.board(6, 6));
         Due.same("2: 6 by 3", 18, x.board(6, 3));
@@ -48,7 +48,7 @@ public final class BoardsTest {
     }
 
     private static void boardForgets() {
-        Retroboard x = Due.bench(5, 5, 0, "Ka1 ke5 Pb2");
+        Bench x = Due.bench(5, 5, 0, "Ka1 ke5 Pb2");
         x.condition('m', true);
         x.condition('g', true);
         x.condition('p', true);
@@ -77,7 +77,7 @@ public final class BoardsTest {
     }
 
     private static void man() {
-        Retroboard x = new Retroboard();
+        Bench x = new Bench();
         Due.same("3: the first", 1, x.man('k', 0, 0));
         Due.same("3: the second", 2, x.man('k', 1, 24));
         Due.same("3: a pawn on the second row", 3, x.man('p', 0, 5));
@@ -114,13 +114,13 @@ public final class BoardsTest {
         Due.same("3: its letter", 'C', x.at(1));
         x.lift(0);
         Due.same("3: a king behind one lifted", 10, x.man('k', 0, 2));
-        Retroboard low = Due.bench(3, 3, 0, "Pb2");
+        Bench low = Due.bench(3, 3, 0, "Pb2");
         Due.same("3: a pawn on the middle row of three", 'P', low.at(4));
         Due.thrown("3: but on no other one", Due.ARGUMENT, low, () -> low.man('p', 0, 6));
     }
 
     private static void manForgets() {
-        Retroboard x = Due.bench(5, 5, 0, "Ka1 Pb2 pc4");
+        Bench x = Due.bench(5, 5, 0, "Ka1 Pb2 pc4");
         Due.go(x, 0, 1);
         x.man('n', 1, 24);
         Due.same("3: nothing to undo", "NoSuchElementException", Due.outcome(() -> x.undo()));
@@ -129,7 +129,7 @@ public final class BoardsTest {
         Due.go(x, 6, 16);
         x.man('n', 1, 20);
         Due.same("3: what was made stays", true, Due.can(x, 17, 11));
-        Retroboard y = HistoryTest.proved();
+        Bench y = HistoryTest.proved();
         y.prove();
         Due.same("3: proved", true, Due.can(y, 17, 11));
         y.man('n', 1, 24);
@@ -137,7 +137,7 @@ public final class BoardsTest {
     }
 
     private static void lift() {
-        Retroboard x = Due.bench(4, 4, 0, "Ka1 qd4 Pb2");
+        Bench x = Due.bench(4, 4, 0, "Ka1 qd4 Pb2");
         Due.thrown("4: cell 16", Due.BOUNDS, x, () -> x.lift(16));
         Due.thrown("4: cell -1", Due.BOUNDS, x, () -> x.lift(-1));
         Due.thrown("4: a free cell", Due.MISSING, x, () -> x.lift(1));
@@ -148,13 +148,13 @@ public final class BoardsTest {
         Due.same("4: white's pawn", 'P', x.lift(9));
         Due.same("4: nothing to undo", "NoSuchElementException", Due.outcome(() -> x.undo()));
         Due.same("4: an empty board", 0, x.array());
-        Retroboard y = HistoryTest.proved();
+        Bench y = HistoryTest.proved();
         y.army('n', 1, 1);
         y.man('n', 1, 24);
         y.prove();
         y.lift(24);
         Due.same("4: nothing is proved then", false, Due.can(y, 17, 11));
-        Retroboard z = Due.bench(5, 5, 0, "Pb2 pc4 Qe1");
+        Bench z = Due.bench(5, 5, 0, "Pb2 pc4 Qe1");
         Due.go(z, 6, 16);
         z.lift(4);
         Due.same("4: what was made stays", true, Due.can(z, 17, 11));
@@ -163,7 +163,7 @@ public final class BoardsTest {
     }
 
     private static void at() {
-        Retroboard x = Due.bench(6, 6, 0, "Ka1 Qb1 Rc1 Bd1 Ne1 kf6 ie6 gd6 cc6 pb5");
+        Bench x = Due.bench(6, 6, 0, "Ka1 Qb1 Rc1 Bd1 Ne1 kf6 ie6 gd6 cc6 pb5");
         StringBuilder got = new StringBuilder();
         for (int cell = 0; cell < 36; cell++) {
             got.append(x.at(cell));
@@ -175,21 +175,21 @@ public final class BoardsTest {
     }
 
     private static void turn() {
-        Retroboard x = Due.bench(5, 5, 0, "Ka1 ke5");
+        Bench x = Due.bench(5, 5, 0, "Ka1 ke5");
         Due.same("6: white before", 0, x.turn(1));
         Due.same("6: black before", 1, x.turn(1));
         Due.same("6: black moves", "Ke5-d4 Ke5-e4 Ke5-d5", Due.list(x));
         Due.thrown("6: side 2", Due.ARGUMENT, x, () -> x.turn(2));
         Due.thrown("6: side -1", Due.ARGUMENT, x, () -> x.turn(-1));
         Due.same("6: still black", 1, x.turn(0));
-        Retroboard y = HistoryTest.proved();
+        Bench y = HistoryTest.proved();
         y.prove();
         y.turn(1);
         Due.same("6: nothing is proved then, of the same side either", false, Due.can(y, 17, 11));
     }
 
     private static void condition() {
-        Retroboard x = Due.bench(5, 5, 0, "Ra1 ra5");
+        Bench x = Due.bench(5, 5, 0, "Ra1 ra5");
         for (char letter : "mgp".toCharArray()) {
             Due.same("7: " + letter + " did not hold", false, x.condition(letter, true));
             Due.same("7: " + letter + " held", true, x.condition(letter, true));
@@ -208,7 +208,7 @@ public final class BoardsTest {
     }
 
     private static void army() {
-        Retroboard x = new Retroboard();
+        Bench x = new Bench();
         String kinds = "kqrbnigcp";
         int[] first = {1, 1, 2, 2, 2, 0, 0, 0, 6};
         for (int i = 0; i < 9; i++) {

@@ -23,20 +23,20 @@ final class Due {
     }
 
     /** The call throws just this exception, and nothing that can be asked for is another one behind it. */
-    static void thrown(String what, Class<?> want, Retroboard x, Supplier<Object> call) {
-        String before = print(x);
-        String got;
+    static void thrown(String what, Class<?> want, Bench x, Supplier<Object> call) {
+        String before = print(x, () -> { });
+        String[] got = new String[1];
+        String after = print(x, () -> got[0] = name(call));
+        same(what, want.getSimpleName(), got[0]);
+        same(what + " changed something, it", before, after);
+    }
+
+    private static String name(Supplier<Object> call) {
         try {
-            got = "answered " + call.get();
+            return "the answer " + call.get();
         } catch (RuntimeException e) {
-            got = e.getClass() == want ? "" : "threw " + e.getClass();
+            return e.getClass().getSimpleName();
         }
-        asked++;
-        if (!got.isEmpty()) {
-            wrong++;
-            System.out.println(what + " " + got + ", due is " + want);
-        }
-        same(what + " changed something, it", before, print(x));
     }
 
     static void end(String test) {
@@ -46,16 +46,89 @@ final class Due {
         }
     }
 
-    /** All that can be asked for without changing anything. */
-    static String print(Retroboard x) {
-        StringBuilder s = new StringBuilder();
-        s.append(x.checksum()).append(' ').append(list(x)).append(' ').append(x.isPossible());
-        s.append(' ').append(lasts(x)).append(' ').append(award(x));
+    /** All that can be asked for. */
+    static String print(Bench x) {
+        return print(x, () -> { });
+    }
+
+    /** All that can be asked for behind some calls more; each part of it of a new object, for calls are few. */
+    static String print(Bench x, Runnable more) {
+        return x.probe(more, () -> printMoves(x)) + x.probe(more, () -> printLasts(x)) + x.probe(more, () -> printFigures(x))
+            + x.probe(more, () -> printLaid(x)) + x.probe(more, () -> printUndone(x)) + x.probe(more, () -> printEntries(x));
+    }
+
+    private static String printMoves(Bench x) {
+        StringBuilder s = new StringBuilder().append(x.checksum()).append(' ').append(x.moves());
+        for (int i = 0; i < Math.min(x.moves(), 60); i++) {
+            s.append(' ').append(x.moveAt(i, 'f')).append(x.moveAt(i, 'x') == 0 ? "-" : "x").append(x.moveAt(i, 't')).append((char) x.moveAt(i, 'p'));
+        }
+        return s.toString();
+    }
+
+    private static String printLasts(Bench x) {
+        StringBuilder s = new StringBuilder().append(x.lasts());
+        for (int i = 0; i < Math.min(x.lasts(), 40); i++) {
+            for (char what : "ftkce".toCharArray()) {
+                s.append(' ').append(x.lastAt(i, what));
+            }
+        }
+        return s.toString();
+    }
+
+    private static String printFigures(Bench x) {
+        StringBuilder s = new StringBuilder().append(x.isPossible()).append(x.isCheck(0)).append(x.isCheck(1)).append(x.mobility());
         for (int halves = 0; halves < 3; halves++) {
             int n = halves;
             s.append(' ').append(outcome(() -> x.games(n)));
         }
-        return s.append(' ').append(outcome(() -> x.solutions())).append(' ').append(outcome(() -> x.tries())).toString();
+        s.append(' ').append(outcome(() -> x.solutions())).append(' ').append(outcome(() -> x.tries()));
+        for (int i = 0; i < 5; i++) {
+            int n = i;
+            s.append(' ').append(outcome(() -> x.solved(n, 0, 'f'))).append(outcome(() -> x.solved(0, n, 't')));
+            s.append(' ').append(outcome(() -> x.tried(n, true))).append(outcome(() -> x.duals(n)));
+        }
+        return s.append(' ').append(outcome(() -> x.prove())).toString();
+    }
+
+    /** What lies on the board and beside it, conditions, armies, the side that moves, and the problem. */
+    private static String printLaid(Bench x) {
+        StringBuilder s = new StringBuilder();
+        for (int cell = 0; cell < 37; cell++) {
+            int n = cell;
+            s.append(outcome(() -> x.at(n)));
+        }
+        for (char condition : "mgp".toCharArray()) {
+            s.append(' ').append(x.condition(condition, false));
+        }
+        for (char kind : "kqrbnigcp".toCharArray()) {
+            s.append(' ').append(x.army(kind, 0, 0)).append(x.army(kind, 1, 0));
+        }
+        return s.append(' ').append(x.turn(0)).append(' ').append(x.problem('d', 1, '#')).toString();
+    }
+
+    private static String printUndone(Bench x) {
+        StringBuilder s = new StringBuilder();
+        for (int i = 0; i < 60; i++) {
+            String left = outcome(() -> x.undo());
+            s.append(' ').append(left).append(' ').append(x.checksum()).append(' ').append(x.moves()).append(' ').append(x.mobility());
+            if (left.startsWith("No")) {
+                break;
+            }
+        }
+        return s.append(' ').append(x.turn(0)).toString();
+    }
+
+    private static String printEntries(Bench x) {
+        StringBuilder s = new StringBuilder(award(x)).append(' ').append(outcome(() -> x.meanPoints()));
+        for (int entry = 0; entry < 12; entry++) {
+            int e = entry;
+            for (int other = 0; other <= entry; other++) {
+                int o = other;
+                s.append(' ').append(outcome(() -> x.like(e, o)));
+            }
+            s.append(' ').append(outcome(() -> x.anticipated(e, 1))).append(outcome(() -> x.cook(e)));
+        }
+        return s.append(' ').append(outcome(() -> x.enter(0, 0))).toString();
     }
 
     static String outcome(Supplier<Object> call) {
@@ -67,7 +140,7 @@ final class Due {
     }
 
     /** The lawful moves, told in the tongue 0. */
-    static String list(Retroboard x) {
+    static String list(Bench x) {
         StringBuilder s = new StringBuilder();
         int many = x.moves();
         for (int i = 0; i < many; i++) {
@@ -76,7 +149,7 @@ final class Due {
         return s.toString();
     }
 
-    static String text(Retroboard x, int index, int tongue) {
+    static String text(Bench x, int index, int tongue) {
         StringBuilder s = new StringBuilder();
         int many = x.told(index, tongue);
         for (int place = 0; place < many; place++) {
@@ -86,7 +159,7 @@ final class Due {
     }
 
     /** The last moves: kind, from, to, then what was captured, then e for en passant. */
-    static String lasts(Retroboard x) {
+    static String lasts(Bench x) {
         StringBuilder s = new StringBuilder();
         int many = x.lasts();
         for (int i = 0; i < many; i++) {
@@ -96,7 +169,7 @@ final class Due {
         return s.toString();
     }
 
-    static String award(Retroboard x) {
+    static String award(Bench x) {
         StringBuilder s = new StringBuilder();
         for (int place = 0; place < 13; place++) {
             int p = place;
@@ -110,7 +183,7 @@ final class Due {
     }
 
     /** A move of the solutions, told by its cells. */
-    static String solutions(Retroboard x, int plies) {
+    static String solutions(Bench x, int plies) {
         StringBuilder s = new StringBuilder();
         int many = x.solutions();
         for (int i = 0; i < many; i++) {
@@ -123,7 +196,7 @@ final class Due {
     }
 
     /** Makes the lawful move from one cell to another one; the first one, of several. */
-    static char go(Retroboard x, int from, int to) {
+    static char go(Bench x, int from, int to) {
         int many = x.moves();
         for (int i = 0; i < many; i++) {
             if (x.moveAt(i, 'f') == from && x.moveAt(i, 't') == to) {
@@ -133,7 +206,7 @@ final class Due {
         throw new IllegalArgumentException("the test goes where it cannot: " + from + "-" + to + " of " + list(x));
     }
 
-    static boolean can(Retroboard x, int from, int to) {
+    static boolean can(Bench x, int from, int to) {
         int many = x.moves();
         for (int i = 0; i < many; i++) {
             if (x.moveAt(i, 'f') == from && x.moveAt(i, 't') == to) {
@@ -144,15 +217,15 @@ final class Due {
     }
 
     /** A board with men: "Ka1 qc3 Pb2", capital letters for white. */
-    static Retroboard bench(int columns, int rows, int side, String men) {
-        Retroboard x = new Retroboard();
+    static Bench bench(int columns, int rows, int side, String men) {
+        Bench x = new Bench();
         x.board(columns, rows);
         lay(x, columns, men);
         x.turn(side);
         return x;
     }
 
-    static void lay(Retroboard x, int columns, String men) {
+    static void lay(Bench x, int columns, String men) {
         for (String man : men.isEmpty() ? new String[0] : men.split(" ")) {
             char letter = man.charAt(0);
             x.man(Character.toLowerCase(letter), Character.isUpperCase(letter) ? 0 : 1, cell(columns, man.substring(1)));

@@ -10,7 +10,7 @@ public final class FiguresTest {
     }
 
     private static void checksum() {
-        Retroboard x = new Retroboard();
+        Bench x = new Bench();
         x.board(3, 3);
         Due.same("37: empty", sum("........."), x.checksum());
         Due.lay(x, 3, "Ka1 nc1 Pb2 qc3");
@@ -31,7 +31,7 @@ public final class FiguresTest {
     }
 
     private static void mobility() {
-        Retroboard x = new Retroboard();
+        Bench x = new Bench();
         Due.same("38: none", 0.0f, x.mobility());
         Due.lay(x, 5, "Ra1");
         Due.same("38: a rook", 8.0f / 25.0f, x.mobility());
@@ -44,14 +44,14 @@ public final class FiguresTest {
         Due.same("38: en passant", 2.0f / 36.0f, passed().mobility());
     }
 
-    private static Retroboard passed() {
-        Retroboard x = Due.bench(6, 6, 0, "Pb2 pc4 pc3");
+    private static Bench passed() {
+        Bench x = Due.bench(6, 6, 0, "Pb2 pc4 pc3");
         Due.go(x, 7, 19);
         return x;
     }
 
     private static void meanPoints() {
-        Retroboard x = new Retroboard();
+        Bench x = new Bench();
         Due.thrown("39: no entries", Due.MISSING, x, () -> x.meanPoints());
         x.enter(10, 5);
         Due.same("39: of one", 10.0, x.meanPoints());
@@ -68,38 +68,42 @@ public final class FiguresTest {
     }
 
     private static void isSound() {
-        Due.same("40: empty", true, new Retroboard().isSound());
-        Retroboard x = Due.bench(5, 5, 1, "Pb4 pc4 ka4 Ke1 Qd1 Nc3");
+        Due.same("40: empty", true, new Bench().isSound());
+        Bench x = Due.bench(5, 5, 1, "Pb4 pc4 ka4 Ke1 Qd1 Nc3");
         for (char kind : "dshz".toCharArray()) {
             x.problem(kind, 1, '=');
             String before = Due.print(x);
             Due.same("40: " + kind, true, x.isSound());
             Due.same("40: it changes nothing", before, Due.print(x));
         }
-        Retroboard y = HistoryTest.proved();
+        Bench y = HistoryTest.proved();
         y.prove();
         y.problem('h', 2, '=');
         Due.same("40: proved", true, y.isSound());
         Due.same("40: and still so", true, Due.can(y, 17, 11));
     }
 
-    /** 512 calls, with moves made and undone all along. */
+    /** The 512th call answers as the first ones do, moves being made and undone all along. */
     private static void manyCalls() {
         Retroboard x = new Retroboard();
-        Due.lay(x, 5, "Ka1 ke5 Ra3 rb5");
-        for (int i = 0; i < 500; i++) {
-            x.make(i % x.moves());
+        x.man('k', 0, 0);
+        x.man('k', 1, 24);
+        x.man('r', 0, 10);
+        x.man('r', 1, 21);
+        for (int i = 0; i < 253; i++) {
+            x.make(0);
         }
-        for (int i = 499; i >= 0; i--) {
+        for (int i = 252; i >= 0; i--) {
             Due.same("12: many are left", i, x.undo());
         }
-        Due.same("12: all is as at first", sum("K.........R..........r..k"), x.checksum());
+        Due.same("37: call 511, all is as at first", sum("K.........R..........r..k"), x.checksum());
+        Due.same("38: call 512", 7.0f / 25.0f, x.mobility());
         Retroboard y = new Retroboard();
-        Due.lay(y, 5, "Ka1 ke5");
-        for (int i = 0; i < 2000; i++) {
-            y.make(0);
-            y.isSound();
+        y.man('k', 0, 0);
+        y.man('k', 1, 24);
+        for (int i = 0; i < 509; i++) {
+            Due.same("11: call " + (i + 3), '.', y.make(0));
         }
-        Due.same("11: behind the last call that is promised, nothing is thrown", 2, y.array());
+        Due.same("12: call 512", 508, y.undo());
     }
 }

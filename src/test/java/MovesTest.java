@@ -25,7 +25,7 @@ public final class MovesTest {
     }
 
     private static void reaches(String what, int columns, int rows, String men, String from, int... due) {
-        Retroboard x = Due.bench(columns, rows, 0, men);
+        Bench x = Due.bench(columns, rows, 0, men);
         Due.same("15: reached by " + what, Due.sum(due), x.reach(Due.cell(columns, from), false));
         Due.same("15: struck by " + what, Due.sum(due), x.reach(Due.cell(columns, from), true));
     }
@@ -58,7 +58,7 @@ public final class MovesTest {
     }
 
     private static void reachThrows() {
-        Retroboard x = Due.bench(3, 3, 0, "Ka1");
+        Bench x = Due.bench(3, 3, 0, "Ka1");
         Due.thrown("15: cell 9", Due.BOUNDS, x, () -> x.reach(9, false));
         Due.thrown("15: cell -1", Due.BOUNDS, x, () -> x.reach(-1, true));
         Due.thrown("15: a free cell", Due.MISSING, x, () -> x.reach(8, true));
@@ -100,14 +100,14 @@ public final class MovesTest {
         goes("without its king", 3, 3, 0, "Rb1 rc1", "Rb1-a1 Rb1xc1 Rb1-b2 Rb1-b3");
         goes("out of check", 3, 3, 0, "Ka1 rc1 Nb3", "Ka1-a2 Ka1-b2 Nb3xc1");
         goes("not beside the other king", 3, 3, 0, "Ka1 ka3", "Ka1-b1");
-        Retroboard x = Due.bench(5, 5, 0, "Ka1 Rb1 re1");
+        Bench x = Due.bench(5, 5, 0, "Ka1 Rb1 re1");
         Due.same("9: how many", 5, x.moves());
         x.turn(1);
         Due.same("9: of black", 7, x.moves());
     }
 
     private static void moveAt() {
-        Retroboard x = Due.bench(5, 5, 0, "Pb4 na5 Kc1");
+        Bench x = Due.bench(5, 5, 0, "Pb4 na5 Kc1");
         Due.same("10: order", "Kc1-b1 Kc1-d1 Kc1-b2 Kc1-c2 Kc1-d2 b4xa5=Q b4xa5=R b4xa5=B b4xa5=N b4-b5=Q b4-b5=R b4-b5=B b4-b5=N", Due.list(x));
         Due.same("10: f", 2, x.moveAt(0, 'f'));
         Due.same("10: t", 1, x.moveAt(0, 't'));
@@ -124,12 +124,12 @@ public final class MovesTest {
         Due.thrown("10: index -1", Due.MISSING, x, () -> x.moveAt(-1, 'f'));
         Due.thrown("10: index -1, ahead of no such thing", Due.MISSING, x, () -> x.moveAt(-1, 'k'));
         Due.thrown("10: no such thing", Due.ARGUMENT, x, () -> x.moveAt(0, 'k'));
-        Retroboard black = Due.bench(3, 3, 1, "pb2");
+        Bench black = Due.bench(3, 3, 1, "pb2");
         Due.same("10: p of black", (int) 'n', black.moveAt(3, 'p'));
     }
 
     private static void make() {
-        Retroboard x = Due.bench(5, 5, 0, "Pb4 na5 Kc1 ke4");
+        Bench x = Due.bench(5, 5, 0, "Pb4 na5 Kc1 ke4");
         Due.thrown("11: index 13", Due.MISSING, x, () -> x.make(13));
         Due.thrown("11: index -1", Due.MISSING, x, () -> x.make(-1));
         Due.same("11: a knight of black", 'n', x.make(8));
@@ -146,7 +146,7 @@ public final class MovesTest {
     }
 
     private static void undo() {
-        Retroboard x = Due.bench(5, 5, 0, "Pb4 na5 Kc1 ke4 Pd2 pc4");
+        Bench x = Due.bench(5, 5, 0, "Pb4 na5 Kc1 ke4 Pd2 pc4");
         Due.thrown("12: none made", Due.MISSING, x, () -> x.undo());
         String first = Due.print(x);
         Due.go(x, 16, 20);
@@ -173,12 +173,12 @@ public final class MovesTest {
         Due.same("12: nor behind it", false, Due.can(x, 17, 13));
         Due.same("12: the first one", 0, x.undo());
         Due.same("12: all is as before it", first, Due.print(x));
-        Retroboard y = HistoryTest.proved();
+        Bench y = HistoryTest.proved();
         y.prove();
         Due.go(y, 17, 11);
         y.undo();
         Due.same("12: what was proved is proved", true, Due.can(y, 17, 11));
-        Retroboard z = Due.bench(4, 4, 0, "Ka1");
+        Bench z = Due.bench(4, 4, 0, "Ka1");
         Due.go(z, 0, 1);
         z.condition('g', true);
         z.array();
@@ -187,7 +187,7 @@ public final class MovesTest {
     }
 
     private static void passing() {
-        Retroboard x = Due.bench(5, 5, 0, "Pb2 pc4 pa4");
+        Bench x = Due.bench(5, 5, 0, "Pb2 pc4 pa4");
         Due.same("11: by two cells nothing is captured", '.', Due.go(x, 6, 16));
         Due.same("9: en passant, from both sides, in order", "a4-a2 a4-a3 a4xb3 c4-c2 c4xb3 c4-c3", Due.list(x));
         Due.same("10: it captures", 1, x.moveAt(4, 'x'));
@@ -200,18 +200,18 @@ public final class MovesTest {
         Due.same("12: it is back", 'P', x.at(16));
         Due.same("12: so is the other", 'p', x.at(17));
         Due.same("12: nothing is between", '.', x.at(11));
-        Retroboard y = Due.bench(6, 6, 1, "pb5 Pc3 kf6");
+        Bench y = Due.bench(6, 6, 1, "pb5 Pc3 kf6");
         Due.go(y, 25, 13);
         Due.same("9: white en passant", true, Due.can(y, 14, 19));
         Due.same("11: black's pawn", 'p', Due.go(y, 14, 19));
         Due.same("11: gone", '.', y.at(13));
-        Retroboard z = Due.bench(6, 6, 0, "Ra4 Pb2 pc4 kf4");
+        Bench z = Due.bench(6, 6, 0, "Ra4 Pb2 pc4 kf4");
         Due.go(z, 7, 19);
         Due.same("9: not if the king is in check then", false, Due.can(z, 20, 13));
     }
 
     private static void passingOnceOnly() {
-        Retroboard x = Due.bench(5, 5, 0, "Pb2 pc4 Re1 re5");
+        Bench x = Due.bench(5, 5, 0, "Pb2 pc4 Re1 re5");
         Due.go(x, 6, 16);
         Due.go(x, 24, 23);
         Due.go(x, 4, 3);
@@ -221,25 +221,25 @@ public final class MovesTest {
         Due.same("9: but that one again", true, Due.can(x, 17, 11));
         x.turn(1);
         Due.same("9: not if a side is told to move", false, Due.can(x, 17, 11));
-        Retroboard y = Due.bench(5, 5, 0, "Pb2 pc3 pc4");
+        Bench y = Due.bench(5, 5, 0, "Pb2 pc3 pc4");
         Due.go(y, 6, 11);
         Due.same("9: not behind one cell", "c3-c2 c4xb3", Due.list(y));
-        Retroboard v = Due.bench(4, 5, 0, "Pb2 Pd3 pc3");
+        Bench v = Due.bench(4, 5, 0, "Pb2 Pd3 pc3");
         Due.go(v, 5, 9);
         Due.same("9: nor another pawn", "c3-c2", Due.list(v));
-        Retroboard u = Due.bench(4, 5, 0, "Pa2 pb2 Rd4 Kd5");
+        Bench u = Due.bench(4, 5, 0, "Pa2 pb2 Rd4 Kd5");
         Due.go(u, 15, 14);
         Due.same("9: nor from the cell 0", "b2-b1=Q b2-b1=R b2-b1=B b2-b1=N", Due.list(u).replace("+", ""));
-        Retroboard z = Due.bench(5, 5, 0, "Rb2 pc4");
+        Bench z = Due.bench(5, 5, 0, "Rb2 pc4");
         Due.go(z, 6, 16);
         Due.same("9: nor a rook", false, Due.can(z, 17, 11));
-        Retroboard w = Due.bench(6, 6, 0, "Pb2 Pb3 pc4");
+        Bench w = Due.bench(6, 6, 0, "Pb2 Pb3 pc4");
         Due.go(w, 13, 19);
         Due.same("9: nor from another row", false, Due.can(w, 20, 13));
     }
 
     private static void passingUnderConditions() {
-        Retroboard x = Due.bench(6, 6, 0, "Pb2 pc4 Pd3");
+        Bench x = Due.bench(6, 6, 0, "Pb2 pc4 Pd3");
         x.condition('m', true);
         Due.go(x, 7, 19);
         Due.same("9: a paralysed pawn does not capture en passant", false, Due.can(x, 20, 13));
@@ -252,7 +252,7 @@ public final class MovesTest {
         x.condition('p', false);
         x.condition('g', true);
         Due.same("9: to another block", true, Due.can(x, 20, 13));
-        Retroboard y = Due.bench(6, 6, 0, "Pc2 pd4");
+        Bench y = Due.bench(6, 6, 0, "Pc2 pd4");
         Due.go(y, 8, 20);
         Due.same("9: to its own one, without blocks", true, Due.can(y, 21, 14));
         y.condition('g', true);
@@ -260,7 +260,7 @@ public final class MovesTest {
     }
 
     private static void isCheck() {
-        Retroboard x = Due.bench(5, 5, 0, "Ka1 ra5 ke5");
+        Bench x = Due.bench(5, 5, 0, "Ka1 ra5 ke5");
         Due.same("13: white", true, x.isCheck(0));
         Due.same("13: not black", false, x.isCheck(1));
         x.turn(1);
@@ -286,7 +286,7 @@ public final class MovesTest {
     }
 
     private static void madrasi() {
-        Retroboard x = Due.bench(5, 5, 0, "Ka1 ra5 Re5");
+        Bench x = Due.bench(5, 5, 0, "Ka1 ra5 Re5");
         Due.same("7: check", true, x.isCheck(0));
         x.condition('m', true);
         Due.same("13: a paralysed rook gives none", false, x.isCheck(0));
@@ -305,12 +305,12 @@ public final class MovesTest {
         Due.same("15: of its own side", Due.sum(1, 2, 3, 4, 6, 8), withM(3, 3, 0, "Qa1 Qc3").reach(0, true));
     }
 
-    private static Retroboard withM(int columns, int rows, int side, String men) {
+    private static Bench withM(int columns, int rows, int side, String men) {
         return with('m', columns, rows, side, men);
     }
 
-    private static Retroboard with(char condition, int columns, int rows, int side, String men) {
-        Retroboard x = Due.bench(columns, rows, side, men);
+    private static Bench with(char condition, int columns, int rows, int side, String men) {
+        Bench x = Due.bench(columns, rows, side, men);
         x.condition(condition, true);
         return x;
     }
@@ -341,30 +341,30 @@ public final class MovesTest {
         Due.same("13: a king that is reached strikes", true, with('p', 3, 3, 0, "Ka1 kb2 rc2").isCheck(0));
         Due.same("15: a pawn alone strikes nothing", 0, with('p', 5, 5, 0, "Pb2").reach(6, true));
         Due.same("15: a pawn that is reached does", Due.sum(10, 12), with('p', 5, 5, 0, "Pb2 Ka1").reach(6, true));
-        Retroboard x = with('p', 5, 5, 0, "Ka1 ra5 re5 Re1");
+        Bench x = with('p', 5, 5, 0, "Ka1 ra5 re5 Re1");
         x.condition('m', true);
         Due.same("13: reached by one that is paralysed", true, x.isCheck(0));
         Due.same("15: the other rook strikes nothing", 0, x.reach(24, true));
     }
 
     private static void isAim() {
-        Retroboard x = Due.bench(5, 5, 1, "Kb3 Qb2 ka1");
+        Bench x = Due.bench(5, 5, 1, "Kb3 Qb2 ka1");
         Due.same("14: mate", true, x.isAim('#'));
         Due.same("14: no stalemate", false, x.isAim('='));
         x.turn(0);
         Due.same("14: white is not mated", false, x.isAim('#'));
         Due.same("14: nor in stalemate", false, x.isAim('='));
-        Retroboard y = Due.bench(5, 5, 1, "Ke5 Qc2 ka1");
+        Bench y = Due.bench(5, 5, 1, "Ke5 Qc2 ka1");
         Due.same("14: stalemate", true, y.isAim('='));
         Due.same("14: no mate", false, y.isAim('#'));
         Due.same("14: stalemate without a king", true, Due.bench(5, 5, 1, "pb3 Nb2").isAim('='));
-        Due.same("14: without men", true, new Retroboard().isAim('='));
-        Due.same("14: no mate without a king", false, new Retroboard().isAim('#'));
+        Due.same("14: without men", true, new Bench().isAim('='));
+        Due.same("14: no mate without a king", false, new Bench().isAim('#'));
         Due.same("14: check alone", false, Due.bench(5, 5, 1, "ka1 Ra5").isAim('#'));
         Due.same("14: moves without check", false, Due.bench(5, 5, 1, "ka1").isAim('='));
         Due.thrown("14: no such aim", Due.ARGUMENT, x, () -> x.isAim('+'));
         Due.thrown("14: none", Due.ARGUMENT, x, () -> x.isAim((char) 0));
-        Retroboard z = Due.bench(5, 5, 0, "Pb2 Nc3 pc4");
+        Bench z = Due.bench(5, 5, 0, "Pb2 Nc3 pc4");
         Due.go(z, 6, 16);
         Due.same("14: no stalemate, for en passant", false, z.isAim('='));
         z.turn(1);
@@ -388,13 +388,13 @@ public final class MovesTest {
         pure("no mate, but check", false, "Kb4 Re1 ka1");
         pure("stalemate", false, "Ke5 Qc2 ka1");
         pure("no king", false, "Qc2");
-        Retroboard x = Due.bench(5, 5, 0, "Kb3 Re1 ka1");
+        Bench x = Due.bench(5, 5, 0, "Kb3 Re1 ka1");
         Due.same("16: the other side moves", false, x.isPure());
         Due.same("16: white mated", true, Due.bench(5, 5, 0, "kb3 re1 Ka1").isPure());
     }
 
     private static void telling() {
-        Retroboard x = Due.bench(6, 6, 0, "Kf6 Qa1 Rb1 Bc1 Nd1 Ie1 Gf1 Cf2");
+        Bench x = Due.bench(6, 6, 0, "Kf6 Qa1 Rb1 Bc1 Nd1 Ie1 Gf1 Cf2");
         String[] letters = {"KQRBNIGC", "KDTLSIGC"};
         for (int tongue = 0; tongue < 2; tongue++) {
             StringBuilder got = new StringBuilder();
@@ -408,7 +408,7 @@ public final class MovesTest {
             String due = letters[tongue].substring(1) + letters[tongue].charAt(0);
             Due.same("18: letters in the tongue " + tongue, due, got.toString());
         }
-        Retroboard y = Due.bench(5, 5, 0, "Pb4 na5 kd5");
+        Bench y = Due.bench(5, 5, 0, "Pb4 na5 kd5");
         String[] due = {"b4xa5=Q+ b4xa5=R+ b4xa5=B b4xa5=N b4-b5=Q+ b4-b5=R+ b4-b5=B b4-b5=N",
             "b4xa5=D+ b4xa5=T+ b4xa5=L b4xa5=S b4-b5=D+ b4-b5=T+ b4-b5=L b4-b5=S"};
         for (int tongue = 0; tongue < 2; tongue++) {
@@ -418,17 +418,17 @@ public final class MovesTest {
                 Due.same("17: its length", words[i].length(), y.told(i, tongue));
             }
         }
-        Retroboard z = Due.bench(5, 5, 0, "Kb3 Re5 ka1");
+        Bench z = Due.bench(5, 5, 0, "Kb3 Re5 ka1");
         Due.same("18: mate", true, (Due.list(z) + " ").contains(" Re5-e1# "));
         Due.same("18: check", true, (Due.list(z) + " ").contains(" Re5-a5+ "));
         Due.same("18: neither", true, (Due.list(z) + " ").contains(" Re5-e4 "));
         Due.same("18: stalemate is not told", true, (Due.list(Due.bench(5, 5, 0, "Ke5 Qc3 ka1")) + " ").contains(" Qc3-c2 "));
-        Retroboard b = Due.bench(5, 5, 1, "na3 Nb1 Ke5");
+        Bench b = Due.bench(5, 5, 1, "na3 Nb1 Ke5");
         Due.same("18: black's letters are capital ones, too", "Na3xb1 Na3-c2 Na3-c4+ Na3-b5", Due.list(b));
     }
 
     private static void tellingThrows() {
-        Retroboard x = Due.bench(3, 3, 0, "Ka1");
+        Bench x = Due.bench(3, 3, 0, "Ka1");
         Due.thrown("17: index 3", Due.MISSING, x, () -> x.told(3, 0));
         Due.thrown("17: index -1, ahead of no such tongue", Due.MISSING, x, () -> x.told(-1, 2));
         Due.thrown("17: tongue 2", Due.ARGUMENT, x, () -> x.told(0, 2));

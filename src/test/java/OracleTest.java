@@ -15,6 +15,8 @@ public final class OracleTest {
     private final Random random;
     private final long seed;
     private final StringBuilder told = new StringBuilder();
+    /** An object is promised for 512 calls alone; a run ends there. */
+    private int calls;
     private static final AtomicInteger wrong = new AtomicInteger();
     /** How often the runs came upon what they are to show. */
     private static final AtomicIntegerArray seen = new AtomicIntegerArray(8);
@@ -52,6 +54,9 @@ public final class OracleTest {
     }
 
     private String same(String call, Supplier<Object> mine, Supplier<Object> theirs) {
+        if (calls++ == Bench.MOST_CALLS) {
+            throw new IllegalStateException("stop");
+        }
         String got = outcome(mine);
         String want = outcome(theirs);
         told.append(call).append(" -> ").append(got).append('\n');

@@ -15,8 +15,8 @@ public final class ProblemsTest {
         Due.end("ProblemsTest");
     }
 
-    private static Retroboard told(int columns, int rows, String men, char kind, int moves, char aim) {
-        Retroboard x = Due.bench(columns, rows, 0, men);
+    private static Bench told(int columns, int rows, String men, char kind, int moves, char aim) {
+        Bench x = Due.bench(columns, rows, 0, men);
         x.problem(kind, moves, aim);
         return x;
     }
@@ -24,7 +24,7 @@ public final class ProblemsTest {
     /** The solutions are as due, whoever moves; a problem's kind, moves and aim stand as "d2#". */
     private static void solved(String what, String due, int columns, int rows, String men, String problem) {
         int moves = problem.charAt(1) - '0';
-        Retroboard x = told(columns, rows, men, problem.charAt(0), moves, problem.charAt(2));
+        Bench x = told(columns, rows, men, problem.charAt(0), moves, problem.charAt(2));
         int plies = problem.charAt(0) == 'h' ? 2 * moves : problem.charAt(0) == 'z' ? moves : 1;
         Due.same("20: " + what, due.isEmpty() ? 0 : due.split(" ").length, x.solutions());
         Due.same("21: " + what, due, Due.solutions(x, plies));
@@ -35,7 +35,7 @@ public final class ProblemsTest {
     }
 
     private static void problem() {
-        Retroboard x = new Retroboard();
+        Bench x = new Bench();
         Due.same("19: none before", 0, x.problem('z', 3, '='));
         Due.same("19: three moves before", 3, x.problem('d', 1, '#'));
         Due.same("19: one before", 1, x.problem('s', 2, '#'));
@@ -62,14 +62,14 @@ public final class ProblemsTest {
         solved("by promotion", "4-7=q", 3, 3, "Kc3 kb1 Pb2", "d2#");
         solved("by two promotions", "7-10=q 7-10=r", 3, 4, "Kc2 ka1 Pb3", "d2#");
         solved("stalemate in two", "1-4", 3, 4, "Kc2 ka3 Rb1", "d2=");
-        Retroboard x = told(3, 3, "ka1 Kc1 Qb2", 'd', 1, '#');
+        Bench x = told(3, 3, "ka1 Kc1 Qb2", 'd', 1, '#');
         x.lift(4);
         x.man('q', 0, 7);
         int inOne = x.solutions();
         Due.same("20: three mates", 3, inOne);
         x.problem('d', 2, '#');
         Due.same("20: mates at once solve it in two, as well", 4, x.solutions());
-        Retroboard y = told(5, 5, "Kc3 Qd2 ka1", 'd', 2, '#');
+        Bench y = told(5, 5, "Kc3 Qd2 ka1", 'd', 2, '#');
         Due.same("21: stalemate is no mate in two", false, (" " + Due.solutions(y, 1) + " ").contains(" 8-7 "));
         for (int i = 0; i < y.tries(); i++) {
             Due.same("23: nor a try", false, y.tried(i, false) == 807);
@@ -77,7 +77,7 @@ public final class ProblemsTest {
     }
 
     private static void triesAndRefutations() {
-        Retroboard x = told(4, 4, "Kc2 kd4 Rc3", 'd', 2, '#');
+        Bench x = told(4, 4, "Kc2 kd4 Rc3", 'd', 2, '#');
         int[] tries = {601, 602, 603, 1009, 1011, 1014};
         int[] refutations = {1510, 1510, 1510, 1514, 1514, 1514};
         Due.same("22: how many", 6, x.tries());
@@ -89,7 +89,7 @@ public final class ProblemsTest {
         Due.same("22: whoever moves", 6, x.tries());
         x.problem('d', 1, '#');
         Due.same("22: none in one", 0, x.tries());
-        Retroboard s = told(3, 4, "Ka1 kc3 Qa4 cc1", 's', 2, '=');
+        Bench s = told(3, 4, "Ka1 kc3 Qa4 cc1", 's', 2, '=');
         Due.same("22: of a selfstalemate", 3, s.tries());
         Due.same("23: its first", 3, s.tried(0, false));
         Due.same("23: and how it fails", 210, s.tried(0, true));
@@ -97,7 +97,7 @@ public final class ProblemsTest {
         Due.same("23: and how it fails, too", 811, s.tried(2, true));
         s.problem('s', 1, '=');
         Due.same("22: none in one, selfstalemate", 0, s.tries());
-        Retroboard p = told(3, 3, "Kc3 kb1 Pb2", 'd', 2, '#');
+        Bench p = told(3, 3, "Kc3 kb1 Pb2", 'd', 2, '#');
         Due.same("22: promoted otherwise", 1, p.tries());
         Due.same("23: to the same cell", 407, p.tried(0, false));
         Due.same("23: refuted", 103, p.tried(0, true));
@@ -125,14 +125,14 @@ public final class ProblemsTest {
         solved("in two", "9-14,1-11", 5, 4, "Ke2 kc3 Qb1 Pa2", "z2#");
         solved("in three, in two orders", "1-2,5-8,2-0 5-8,1-2,2-0", 3, 4, "Kc2 ka3 Rb1", "z3#");
         solved("stalemate in three", "5-9,9-13=q,13-5 5-9,9-13=q,13-10", 4, 4, "Ka4 kd1 Pb2", "z3=");
-        Retroboard x = told(5, 5, "Kb3 Re5 ka1", 'z', 2, '#');
+        Bench x = told(5, 5, "Kb3 Re5 ka1", 'z', 2, '#');
         String all = Due.solutions(x, 2);
         Due.same("21: not by way of a check", false, all.contains("24-20,20"));
         Due.same("21: by way of another cell", true, all.contains("24-14,14-4"));
     }
 
     private static void passing() {
-        Retroboard x = Due.bench(5, 5, 1, "pb4 Pc2 Ka2");
+        Bench x = Due.bench(5, 5, 1, "pb4 Pc2 Ka2");
         x.problem('d', 1, '=');
         for (char kind : "qrbn".toCharArray()) {
             x.army(kind, 0, 0);
@@ -147,18 +147,18 @@ public final class ProblemsTest {
         Due.same("21: in each kind", "5-1 5-6 7-11", Due.solutions(x, 1));
         x.turn(0);
         Due.same("21: nothing is proved then", "5-1 5-6", Due.solutions(x, 1));
-        Retroboard y = HistoryTest.proved();
+        Bench y = HistoryTest.proved();
         y.problem('h', 1, '=');
         y.army('p', 0, 6);
         Due.same("20: white has no move behind the capture", 1, y.prove() / 11);
         y.problem('d', 1, '#');
         Due.same("20: nor is it white's to capture", 0, y.solutions());
-        Retroboard z = told(5, 5, "Pb2 Nc3 pc4", 's', 1, '=');
+        Bench z = told(5, 5, "Pb2 Nc3 pc4", 's', 1, '=');
         Due.same("20: two cells of a pawn in a problem can be answered en passant", true, Due.solutions(z, 1).indexOf("6-16") < 0);
     }
 
     private static void tooWide() {
-        Retroboard x = told(6, 6, "Rb2 Rc3 rf6", 'd', 2, '#');
+        Bench x = told(6, 6, "Rb2 Rc3 rf6", 'd', 2, '#');
         Due.same("20: 20 times 10 is not too wide", 0, x.solutions());
         Due.same("24: nor for tries", 0, x.tries());
         x.man('n', 1, 0);
@@ -183,7 +183,7 @@ public final class ProblemsTest {
     }
 
     private static void solvedThrows() {
-        Retroboard x = Due.bench(5, 5, 0, "Kb3 Re5 ka1");
+        Bench x = Due.bench(5, 5, 0, "Kb3 Re5 ka1");
         Due.thrown("20: no problem", Due.STATE, x, () -> x.solutions());
         Due.thrown("21: no problem, ahead of all else", Due.STATE, x, () -> x.solved(-1, -1, 'x'));
         x.problem('d', 1, '#');
@@ -204,7 +204,7 @@ public final class ProblemsTest {
     }
 
     private static void triesThrow() {
-        Retroboard x = Due.bench(4, 4, 0, "Kc2 kd4 Rc3");
+        Bench x = Due.bench(4, 4, 0, "Kc2 kd4 Rc3");
         Due.thrown("22: no problem", Due.STATE, x, () -> x.tries());
         Due.thrown("23: no problem", Due.STATE, x, () -> x.tried(-1, false));
         Due.thrown("24: no problem", Due.STATE, x, () -> x.duals(-1));
@@ -231,7 +231,7 @@ public final class ProblemsTest {
     private static void duals() {
         Due.same("24: none", 0, told(4, 4, "Kc2 kd4 Rc3", 'd', 2, '#').duals(0));
         Due.same("24: one", 1, told(3, 3, "Kc3 kb1 Pb2", 'd', 2, '#').duals(0));
-        Retroboard x = told(3, 3, "ka1 Kc1 Qb3", 'd', 2, '#');
+        Bench x = told(3, 3, "ka1 Kc1 Qb3", 'd', 2, '#');
         String keys = Due.solutions(x, 1);
         for (int key = 0; key < 4; key++) {
             x.problem('d', 2, '#');

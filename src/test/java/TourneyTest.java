@@ -11,7 +11,7 @@ public final class TourneyTest {
     }
 
     private static void enter() {
-        Retroboard x = Due.bench(5, 5, 0, "Ka1 ke5");
+        Bench x = Due.bench(5, 5, 0, "Ka1 ke5");
         Due.thrown("31: -1 points", Due.ARGUMENT, x, () -> x.enter(-1, 0));
         Due.thrown("31: 101 points", Due.ARGUMENT, x, () -> x.enter(101, 0));
         Due.thrown("31: the year -1", Due.ARGUMENT, x, () -> x.enter(0, -1));
@@ -30,7 +30,7 @@ public final class TourneyTest {
     }
 
     private static void cook() {
-        Retroboard x = new Retroboard();
+        Bench x = new Bench();
         Due.thrown("32: none", Due.BOUNDS, x, () -> x.cook(0));
         x.enter(10, 10);
         x.enter(20, 10);
@@ -49,7 +49,7 @@ public final class TourneyTest {
     }
 
     private static void like() {
-        Retroboard x = Due.bench(4, 4, 0, "Ka1 kd4 Qb2 nc3");
+        Bench x = Due.bench(4, 4, 0, "Ka1 kd4 Qb2 nc3");
         x.enter(1, 1);
         x.lift(10);
         x.man('n', 0, 10);
@@ -75,7 +75,7 @@ public final class TourneyTest {
         Due.thrown("33: the other 5", Due.BOUNDS, x, () -> x.like(0, 5));
         Due.thrown("33: entry -1", Due.BOUNDS, x, () -> x.like(-1, 0));
         Due.thrown("33: the other -1", Due.BOUNDS, x, () -> x.like(0, -1));
-        Retroboard y = new Retroboard();
+        Bench y = new Bench();
         y.board(4, 5);
         Due.lay(y, 4, "Ka1");
         y.enter(1, 1);
@@ -86,7 +86,7 @@ public final class TourneyTest {
     }
 
     private static void anticipated() {
-        Retroboard x = Due.bench(4, 4, 0, "Ka1 kd4 Qb2 nc3");
+        Bench x = Due.bench(4, 4, 0, "Ka1 kd4 Qb2 nc3");
         x.enter(50, 10);
         x.enter(50, 9);
         x.lift(10);
@@ -113,7 +113,7 @@ public final class TourneyTest {
     }
 
     private static void award() {
-        Retroboard x = new Retroboard();
+        Bench x = new Bench();
         Due.thrown("35: none", Due.MISSING, x, () -> x.award(0));
         int[][] entries = {{50, 8}, {60, 9}, {50, 7}, {60, 9}, {50, 8}, {0, 0}, {100, 99}};
         for (int[] entry : entries) {
@@ -130,7 +130,7 @@ public final class TourneyTest {
     }
 
     private static void withdraw() {
-        Retroboard x = new Retroboard();
+        Bench x = new Bench();
         Due.same("36: none", 0, x.withdraw(5));
         x.enter(10, 5);
         x.enter(20, 5);
