@@ -1,5 +1,8 @@
 /** Sentences under Boards and Men, and of the promises 1 to 8. */
 final class EdgesOfBoards {
+    /** The moves of black's pawn on b2 that captures nothing, not on the cell 0 either. */
+    private static final String BLACK_BY_B2 = "b2-b1=Q b2-b1=R b2-b1=B b2-b1=N";
+
     private EdgesOfBoards() {
     }
 
@@ -214,11 +217,31 @@ final class EdgesOfBoards {
             hop("over the first man of two", Due.sum(2), "Ga1 " + over + "b1 " + over + "c1");
             hop("not over the second one", Due.sum(3), "Ga1 " + over + "c1 " + over + "e1");
         }
+        for (int cell = 0; cell < 30; cell++) {
+            for (int over = 0; over < 30; over++) {
+                if (over != cell) {
+                    Bench y = Edges.empty(5, 6);
+                    y.man('g', 0, cell);
+                    y.man('n', 1, over);
+                    Due.same("a grasshopper on " + cell + " over " + over, behindMan(cell, over), y.reach(cell, false));
+                }
+            }
+        }
         Bench x = Due.bench(6, 6, 0, "Gc3 nb2 Nc2 nd2 Nb3 nd3 Nb4 nc4 Nd4");
         Due.same("in eight directions", Due.sum(0, 2, 4, 12, 16, 24, 26, 28), x.reach(14, false));
         Due.same("it captures behind a man", 'r', Due.go(Due.bench(5, 5, 0, "Ga1 Nb1 rc1"), 0, 2));
         Due.same("the man stays", 'N', behindHop().at(1));
         Due.same("not its own man", false, Due.can(Due.bench(5, 5, 0, "Ga1 Nb1 Rc1"), 0, 2));
+    }
+
+    /** The cell right behind a man, as a sum, for a grasshopper on 5 by 6; 0 if it does not come there. */
+    private static int behindMan(int cell, int over) {
+        int up = over / 5 - cell / 5;
+        int aside = over % 5 - cell % 5;
+        int row = over / 5 + Integer.signum(up);
+        int column = over % 5 + Integer.signum(aside);
+        boolean isLine = up == 0 || aside == 0 || up == aside || up == -aside;
+        return isLine && row >= 0 && row < 6 && column >= 0 && column < 5 ? Due.sum(row * 5 + column) : 0;
     }
 
     private static Bench behindHop() {
@@ -233,6 +256,16 @@ final class EdgesOfBoards {
             Due.same("white's, stopped", false, Due.can(Due.bench(4, 4, 0, "Pb2 " + stop + "b3"), 5, 9));
             Due.same("black's, stopped", false, Due.can(Due.bench(4, 4, 1, "pb3 " + stop + "b2"), 9, 5));
         }
+        Edges.everyBoard((columns, rows) -> {
+            for (int cell = columns; cell < columns * (rows - 1); cell++) {
+                for (int side = 0; side < 2; side++) {
+                    Bench x = Edges.empty(columns, rows);
+                    x.man('p', side, cell);
+                    x.turn(side);
+                    Due.same("a pawn of " + side + " on " + cell, true, Due.can(x, cell, side == 0 ? cell + columns : cell - columns));
+                }
+            }
+        });
         Due.same("white's", "b2-b3", Due.list(Due.bench(4, 4, 0, "Pb2")));
         Due.same("black's", "b3-b2", Due.list(Due.bench(4, 4, 1, "pb3")));
         Due.same("white's, on a third row", "b3-b4", Due.list(Due.bench(5, 5, 0, "Pb3")));
@@ -331,6 +364,17 @@ final class EdgesOfBoards {
 
     private static void kingsStay() {
         Page.says("Kings are not captured.");
+        for (int side = 0; side < 2; side++) {
+            for (int cell = 0; cell < 16; cell++) {
+                Bench x = Edges.empty(4, 4);
+                int from = cell < 4 ? cell + 4 : cell - 4;
+                x.man('r', side, from);
+                x.man('k', 1 - side, cell);
+                x.turn(side);
+                Due.same("a king on " + cell + " is in check", true, x.isCheck(1 - side));
+                Due.same("but not captured", false, Due.can(x, from, cell));
+            }
+        }
         String[] beside = {"Qa1", "Ra1", "Ba1", "Na1", "Ia1", "Ca1", "Ga1 Nb2", "Pa2"};
         String[] king = {"b2", "a2", "b2", "b3", "c5", "b4", "c3", "b3"};
         for (int i = 0; i < beside.length; i++) {
@@ -391,7 +435,11 @@ final class EdgesOfBoards {
         Page.open("Promise 2");
         Page.says("Lays an empty board, white moving, without conditions, array and problem;");
         Bench x = full();
+        x.turn(1);
         x.board(4, 3);
+        Due.same("white moving", 0, x.twin().turn(1));
+        Due.same("no men", 0, x.twin().array());
+        Due.same("no moves", 0, x.moves());
         for (int cell = 0; cell < 12; cell++) {
             Due.same("empty", '.', x.at(cell));
         }
@@ -402,7 +450,12 @@ final class EdgesOfBoards {
         for (char condition : "mgp".toCharArray()) {
             Due.same("without " + condition, false, x.condition(condition, false));
         }
-        Due.same("white moving", 0, x.turn(0));
+        Bench passing = Due.bench(5, 5, 1, "pb4 Pc2");
+        Due.go(passing, 16, 6);
+        passing.board(5, 5);
+        passing.man('p', 1, 6);
+        passing.man('p', 0, 7);
+        Due.same("no pawn that could be captured en passant", false, Due.can(passing, 7, 11));
         Page.says("armies and entries stay;");
         Due.same("the army", 9, x.army('g', 1, 0));
         Due.same("the entry", 5, x.like(0, 0));
@@ -448,6 +501,7 @@ final class EdgesOfBoards {
         Due.same("proved", true, Due.can(proved, 17, 11));
         proved.man('n', 1, 24);
         Due.same("no more", false, Due.can(proved, 17, 11));
+        Due.same("nor on the cell 0", BLACK_BY_B2, Due.list(turnedFirst()));
         Page.says("- `kind`: k q r b n i g c or p");
         Page.says("- `side`: the side, 0 or 1");
         Page.says("- `cell`: the cell");
@@ -503,6 +557,15 @@ final class EdgesOfBoards {
         Due.thrown("and no cell", Due.BOUNDS, x, () -> x.man('b', 0, 12));
     }
 
+    /** Black's turn was told ahead of all men; nothing was made that its pawn could capture en passant. */
+    private static Bench turnedFirst() {
+        Bench x = Edges.empty(4, 4);
+        x.turn(1);
+        x.man('p', 1, 5);
+        x.man('p', 0, 4);
+        return x;
+    }
+
     private static void promiseLift() {
         Page.open("Promise 4");
         Page.says("Takes a man off;");
@@ -523,6 +586,10 @@ final class EdgesOfBoards {
         Due.same("proved", true, Due.can(proved, 17, 11));
         proved.lift(24);
         Due.same("no more", false, Due.can(proved, 17, 11));
+        Bench corner = turnedFirst();
+        corner.man('q', 0, 15);
+        corner.lift(15);
+        Due.same("nor on the cell 0", BLACK_BY_B2, Due.list(corner));
         Page.says("- `cell`: the cell");
         Page.says("Returns its letter, a capital one for white.");
         for (char kind : Edges.KINDS.toCharArray()) {
@@ -582,6 +649,10 @@ final class EdgesOfBoards {
         again.turn(0);
         again.turn(1);
         Due.same("of the other one", false, Due.can(again, 17, 11));
+        Bench corner = Edges.empty(4, 4);
+        Due.lay(corner, 4, "Pa2 pb2");
+        corner.turn(1);
+        Due.same("nor on the cell 0", BLACK_BY_B2, Due.list(corner));
         Page.says("- `side`: the side, 0 or 1");
         Page.says("Returns the side before.");
         Due.same("white", 0, x.turn(0));

@@ -172,6 +172,7 @@ final class EdgesOfHistory {
         Page.says("from a possible position in which it had the move,");
         last("not from where the other king was in check", "n9-0", 4, 4, 0, "na1 Ka3", "");
         last("not from where the kings were side by side", "k0-1 k2-1", 3, 3, 0, "kb1 Kb3", "");
+        last("none that leaves the check of a rook on the cell 0", "r1-0 r2-0 r3-0 r4-0", 5, 5, 1, "Ra1 Pc4 Ne4 ka5", "");
         last("from where its own king was in check", "k1-0 k4-0 k5-0", 4, 4, 0, "ka1 Rb4", "");
         Page.says("by the rules, to this one:");
         last("none, if its own king is in check now", "", 3, 3, 0, "ka1 Ra3", "");
@@ -424,6 +425,10 @@ final class EdgesOfHistory {
         Page.says("A game from it in n half moves, 0 to 4, is a row of n lawful moves from it to the position as it is, the same men on the same cells, and the same side to move.");
         game(3, 5, "Pb2 pc4", "", 4, 10, 11, 7);
         game(3, 5, "Pa2 pb4 Rc1", "", 3, 9, 10, 6, 2, 5);
+        game(3, 5, "Pa2 pb4 Rc4", "", 3, 9, 10, 6, 11, 9);
+        game(3, 5, "pb4 Pa2 Rc1 ra5", "", 2, 5, 10, 4, 3, 7, 12, 13);
+        game(3, 4, "Kc4 pb2 ka4 Na2", "", 3, 2, 4, 1, 11, 8);
+        game(3, 4, "Kc4 pb2 ka4 Nc1", "", 2, 3, 4, 1);
         game(4, 4, "Ka1 kd4", "", 0, 1, 15, 14, 1, 0, 14, 15);
         game(4, 4, "Ka1 kd4", "", 0, 1, 15, 10, 1, 0, 10, 15);
         game(3, 3, "Ka1 kc3 Pb2", "", 4, 7, 8, 7, 0, 1);
@@ -431,6 +436,12 @@ final class EdgesOfHistory {
         game(4, 4, "Na1 nd4", "g", 0, 6, 15, 9, 6, 0, 9, 15);
         game(4, 4, "Ra1 Rb1 rd4", "p", 0, 8, 15, 3, 1, 2, 3, 7);
         game(4, 4, "Ra1 Rb2 rd4 bd1", "m", 5, 6, 15, 14, 0, 1, 3, 6);
+        for (int i = 0; i < 8; i++) {
+            Bench x = Due.bench(3, 4, i & 1, "Pb3 pc2");
+            x.array();
+            x.make(i >> 1);
+            Due.same("promoted to " + x.at((i & 1) == 0 ? 10 : 2), 1, x.games(1));
+        }
     }
 
     /** From men on a board, by some moves; behind each, games of all lengths are counted, with the other side to move, too. */

@@ -55,6 +55,8 @@ final class EdgesOfMoves {
         Due.same("kings go", "Ka1-a2", Due.list(Edges.with("m", 3, 4, 0, "Ka1 kc1")));
         Due.same("no check by a rook that cannot go", false, Edges.with("m", 5, 5, 0, "Ka1 ra5 Re5").isCheck(0));
         Due.same("but by a queen", true, Edges.with("m", 5, 5, 0, "Ka1 qa5 Re5").isCheck(0));
+        Due.same("check by a grasshopper", true, Due.bench(5, 5, 0, "Ka1 Nb2 gd4 nc4 Gb4").isCheck(0));
+        Due.same("none by one that cannot go", false, Edges.with("m", 5, 5, 0, "Ka1 Nb2 gd4 nc4 Gb4").isCheck(0));
     }
 
     private static void grid() {
@@ -97,6 +99,10 @@ final class EdgesOfMoves {
         Due.same("a king that is reached strikes", Due.sum(1, 3, 4), Edges.with("p", 3, 3, 0, "Ka1 Rb1").reach(0, true));
         Due.same("a pawn alone", false, Due.can(Edges.with("p", 4, 4, 0, "Pb2 na3"), 5, 8));
         Due.same("a pawn that its king reaches", true, Due.can(Edges.with("p", 4, 4, 0, "Pb2 na3 Ka1"), 5, 8));
+        Due.same("a black pawn alone beside the cell 0", "b2-b1=Q b2-b1=R b2-b1=B b2-b1=N", Due.list(Edges.with("p", 4, 4, 1, "pb2 Na1")));
+        Due.same("nor on to it, free", "b2-b1=Q b2-b1=R b2-b1=B b2-b1=N", Due.list(Edges.with("p", 4, 4, 1, "pb2 Nc4")));
+        Due.same("no check by a grasshopper alone", false, Edges.with("p", 5, 5, 0, "Ka1 Nb2 gd4").isCheck(0));
+        Due.same("check by one that is reached", true, Edges.with("p", 5, 5, 0, "Ka1 Nb2 gd4 ke5").isCheck(0));
         Due.same("two rooks that reach each other", true, Due.can(Edges.with("p", 4, 4, 0, "Ra1 Ra2 nd1"), 0, 3));
         Due.same("no check by a rook alone", false, Edges.with("p", 5, 5, 0, "Ka1 ra5").isCheck(0));
         Due.same("check by a rook that is reached", true, Edges.with("p", 5, 5, 0, "Ka1 ra5 nb3").isCheck(0));
@@ -131,6 +137,8 @@ final class EdgesOfMoves {
             Due.same("white, by " + black[i], true, Due.bench(5, 5, 0, black[i]).isCheck(0));
             Due.same("black, by " + white[i], true, Due.bench(5, 5, 0, white[i]).isCheck(1));
         }
+        checkFromEverywhere();
+        checkOverMen();
         for (String own : new String[] {"Qa1 Kb2", "Ra1 Ka2", "Ba1 Kb2", "Na1 Kb3", "Ia1 Kc5", "Ga1 Nb2 Kc3", "Ca1 Kb4", "Pb2 Ka3"}) {
             Due.same("not by its own side, " + own, false, Due.bench(5, 5, 0, own).isCheck(0));
         }
@@ -140,6 +148,58 @@ final class EdgesOfMoves {
         for (String far : new String[] {"qa1 Kb3", "ra1 Kb2", "ba1 Kb1", "na1 Kb2", "ia1 Kb2", "ga1 Kb2", "ga1 nb2 Kd4", "ca1 Kb3",
             "ka1 Kc3", "pb3 Kb2", "pb3 Ka4", "pb3 Ka3"}) {
             Due.same("not by a man that does not reach it, " + far, false, Due.bench(5, 5, 0, far).isCheck(0));
+        }
+    }
+
+    /** Each man gives check from just the cells that its way of going tells. */
+    private static void checkFrom(char kind, int side, Edges.Near near) {
+        for (int king = 0; king < 30; king++) {
+            for (int cell = 0; cell < 30; cell++) {
+                boolean isPawnless = kind == 'p' && (cell < 5 || cell >= 25);
+                if (cell != king && !isPawnless) {
+                    Bench x = Edges.empty(5, 6);
+                    x.man('k', 1 - side, king);
+                    x.man(kind, side, cell);
+                    boolean due = near.is(king / 5 - cell / 5, king % 5 - cell % 5);
+                    Due.same(kind + " on " + cell + " and the king on " + king, due, x.isCheck(1 - side));
+                }
+            }
+        }
+    }
+
+    private static void checkFromEverywhere() {
+        for (int side = 0; side < 2; side++) {
+            int ahead = side == 0 ? 1 : -1;
+            checkFrom('k', side, (up, aside) -> Math.max(Math.abs(up), Math.abs(aside)) == 1);
+            checkFrom('n', side, (up, aside) -> Edges.areBoth(up, aside, 1, 2) || Edges.areBoth(up, aside, 2, 1));
+            checkFrom('c', side, (up, aside) -> Edges.areBoth(up, aside, 1, 3) || Edges.areBoth(up, aside, 3, 1));
+            checkFrom('r', side, (up, aside) -> up == 0 || aside == 0);
+            checkFrom('b', side, (up, aside) -> up == aside || up == -aside);
+            checkFrom('q', side, (up, aside) -> up == 0 || aside == 0 || up == aside || up == -aside);
+            checkFrom('i', side, (up, aside) -> up == 2 * aside || up == -2 * aside || aside == 2 * up || aside == -2 * up);
+            checkFrom('g', side, (up, aside) -> false);
+            checkFrom('p', side, (up, aside) -> up == ahead && Math.abs(aside) == 1);
+        }
+    }
+
+    /** A grasshopper gives check over a man right beside the king, in each direction, from near or far. */
+    private static void checkOverMen() {
+        for (int king = 0; king < 36; king++) {
+            for (int way = 0; way < 9; way++) {
+                int up = way / 3 - 1;
+                int aside = way % 3 - 1;
+                for (int far = 2; far < 6 && way != 4; far++) {
+                    int row = king / 6 + far * up;
+                    int column = king % 6 + far * aside;
+                    for (int over = 1; over < far && row >= 0 && row < 6 && column >= 0 && column < 6; over++) {
+                        Bench x = Edges.empty(6, 6);
+                        x.man('k', 0, king);
+                        x.man('g', 1, row * 6 + column);
+                        x.man('c', over % 2, king + over * (6 * up + aside));
+                        Due.same("a grasshopper over a man " + over + " from the king on " + king + ", way " + way, over == 1, x.isCheck(0));
+                    }
+                }
+            }
         }
     }
 
@@ -478,6 +538,8 @@ final class EdgesOfMoves {
             int becomes = Character.toLowerCase(x.moveAt(i, 'p'));
             Due.same("move " + i, due[i], x.moveAt(i, 'f') + " " + x.moveAt(i, 't') + " " + (becomes == 0 ? "0" : (char) becomes) + " " + x.moveAt(i, 'x'));
         }
+        Bench corner = Due.bench(3, 3, 0, "Rb1 na1");
+        Due.same("to the cell 0", "1 0 0 1", corner.moveAt(0, 'f') + " " + corner.moveAt(0, 't') + " " + corner.moveAt(0, 'p') + " " + corner.moveAt(0, 'x'));
         Bench passing = Due.bench(5, 5, 0, "Pb2 pc4");
         Due.go(passing, 6, 16);
         Due.same("en passant captures", "1 0 0", passing.moveAt(1, 'x') + " " + passing.moveAt(0, 'x') + " " + passing.moveAt(2, 'x'));
@@ -519,6 +581,15 @@ final class EdgesOfMoves {
         for (char kind : "qrbnigcp".toCharArray()) {
             Due.same("a man captured", kind, Due.go(Due.bench(3, 3, 0, "Kb1 " + kind + "b2"), 1, 4));
         }
+        Edges.everyBoard((columns, rows) -> {
+            for (int cell = 0; cell < columns * rows; cell++) {
+                Bench y = Edges.empty(columns, rows);
+                int from = cell < columns ? cell + columns : cell - columns;
+                y.man('n', 1, cell);
+                y.man('q', 0, from);
+                Due.same("a man captured on " + cell, 'n', Due.go(y, from, cell));
+            }
+        });
         Due.same("none", '.', Due.go(Due.bench(3, 3, 0, "Kb1"), 1, 4));
         Page.says("Throws `NoSuchElementException` if there is no such move");
         for (int index : Edges.badIndexes(x.moves())) {

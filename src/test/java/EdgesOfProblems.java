@@ -180,6 +180,11 @@ final class EdgesOfProblems {
         tell(help, "h1=");
         Due.same("black could capture it", true, Due.can(help, 11, 7));
         Due.same("not in a problem", "", Due.solutions(help, 2));
+        for (String problem : new String[] {"h1=", "h2=", "d1=", "z2="}) {
+            Bench corner = told(4, 4, "Pa2 pb2 Kd3", problem);
+            ByHand hand = byHand(problem);
+            Due.same("nor on the cell 0, " + problem, hand.solutions(hand.first(corner)), Due.solutions(corner, plies(problem)));
+        }
         Page.says("but for one that was proved, for the side that could capture it.");
         Bench black = Due.bench(3, 5, 1, "Pb4 pc4 ka4 Rb5 Pa2 Qc5");
         EdgesOfHistory.onlyPawns(black, 1, 1);
@@ -236,7 +241,10 @@ final class EdgesOfProblems {
         Due.same("20 of black's", 20, Due.bench(6, 6, 1, "ke1 Rf3 qc2").moves());
         wide(false, 6, 6, "ke1 Rf3 qc2", 2);
         wide(false, 5, 4, "qc1 Qb2 Qb4", 2);
-        wide(true, 6, 5, "qd5 ra4 rb2 Bd2", 2);
+        Due.same("3 of white's", 3, Due.bench(6, 6, 0, "qb4 qd3 qe5 qc1 Ne1").moves());
+        Due.same("67 of black's", 67, Due.bench(6, 6, 1, "qb4 qd3 qe5 qc1 Ne1").moves());
+        wide(true, 6, 6, "qb4 qd3 qe5 qc1 Ne1", 2);
+        wide(true, 6, 6, "Qd5 Re2 Qa4 Qd3 Qf4 ce1", 2);
         proved(6, 1, "Pd4 pe4 kc4 qc5 rb3");
         proved(6, 0, "pd2 Pe2 Kc2 Qc1 Ra3");
     }
@@ -281,13 +289,17 @@ final class EdgesOfProblems {
 
     private static void tried(String what, String due, int columns, int rows, String men, String problem) {
         Bench x = told(columns, rows, men, problem);
-        StringBuilder got = new StringBuilder();
-        for (int i = 0; i < x.tries(); i++) {
-            got.append(i == 0 ? "" : " ").append(x.tried(i, false)).append(':').append(x.tried(i, true));
-        }
-        Due.same(what + ", " + problem + " of " + men, due, got.toString());
+        Due.same(what + ", " + problem + " of " + men, due, triesOf(x));
         ByHand hand = byHand(problem);
         Due.same(what + ", by hand", due, hand.tries(hand.first(x)));
+    }
+
+    private static String triesOf(Bench x) {
+        StringBuilder s = new StringBuilder();
+        for (int i = 0; i < x.tries(); i++) {
+            s.append(i == 0 ? "" : " ").append(x.tried(i, false)).append(':').append(x.tried(i, true));
+        }
+        return s.toString();
     }
 
     private static void tries() {
@@ -326,6 +338,8 @@ final class EdgesOfProblems {
         duals("two promotions that mate", "1", 3, 3, "Kc3 kb1 Pb2");
         duals("behind the last key alone", "0 0 0 0 1", 5, 5, "Kc3 Qd2 ka1");
         duals("two cells", "1", 5, 3, "kc3 Ka1 Qa2");
+        duals("the first move of all and another one", "1", 4, 4, "ka2 Kc4 Qd1");
+        duals("without a king", "1", 4, 3, "kd1 Pd2 Pa2");
     }
 
     private static void promiseProblem() {
@@ -478,6 +492,13 @@ final class EdgesOfProblems {
         Page.says("Returns 100 times the cell from which, plus that to which.");
         tried("all of them", "601:1510 602:1510 603:1510 1009:1514 1011:1514 1014:1514", 4, 4, "Kc2 kd4 Rc3", "d2#");
         tried("from and to the cell 0", "1:1213 501:1208 506:1213 507:1207 508:1208", 5, 3, "kc3 Ka1 Qa2", "d2#");
+        Bench first = told(4, 4, "Kc2 kd4 Rc3", "d2#");
+        Due.same("asked first of all", 1014, first.tried(5, false));
+        Due.lay(first, 4, "Pa2");
+        first.lift(4);
+        Due.same("and behind another position", 1514, first.tried(5, true));
+        first.man('q', 0, 0);
+        Due.same("as it is now", byHand("d2#").tries(first), triesOf(first));
         Page.says("Throws `IllegalStateException` if no problem is told");
         Bench none = Due.bench(6, 5, 0, "qd5 ra4 rb2 Bd2");
         Due.thrown("no problem", Due.STATE, none, () -> none.tried(0, false));

@@ -1,3 +1,5 @@
+import java.util.Random;
+
 /** Sentences under Pure mates and Telling, and of the promises 16 to 18. */
 final class EdgesOfTelling {
     private EdgesOfTelling() {
@@ -52,6 +54,62 @@ final class EdgesOfTelling {
         pure("and struck twice", false, "", "Kc2 Nb3 Bb1 Re1 ka1");
         Page.says("with the king taken off the board for this.");
         pure("struck through the king", true, "", "Kb3 Re1 kb1");
+        anyMates();
+    }
+
+    /** Mates that come about by chance, with a seed of their own, on a board small enough to tell cells by their sum. */
+    private static void anyMates() {
+        Random random = new Random(40);
+        int mates = 0;
+        int pures = 0;
+        for (int i = 0; i < 60000; i++) {
+            int side = i & 1;
+            Bench x = Edges.empty(4, 4);
+            x.man('k', side, random.nextInt(16));
+            for (int k = 3 + random.nextInt(4); k > 0; k--) {
+                int whose = random.nextInt(4) == 0 ? side : 1 - side;
+                char kind = "qrbnigcpk".charAt(random.nextInt(9));
+                int cell = random.nextInt(16);
+                Due.outcome(() -> x.man(kind, whose, cell));
+            }
+            if (random.nextInt(4) == 0) {
+                x.condition("mgp".charAt(random.nextInt(3)), true);
+            }
+            x.turn(side);
+            if (x.isAim('#')) {
+                boolean isPure = isPureByHand(x, side);
+                mates++;
+                pures += isPure ? 1 : 0;
+                Due.same("pure, mate " + i, isPure, x.isPure());
+            }
+        }
+        Due.same("enough of them", true, mates > 500 && pures > 50);
+    }
+
+    private static boolean isPureByHand(Bench x, int side) {
+        Bench y = x.twin();
+        int king = 0;
+        while (x.at(king) != (side == 0 ? 'K' : 'k')) {
+            king++;
+        }
+        y.lift(king);
+        boolean is = true;
+        for (int cell = 0; cell < 16; cell++) {
+            boolean isNext = cell != king && Math.abs(cell / 4 - king / 4) <= 1 && Math.abs(cell % 4 - king % 4) <= 1;
+            boolean isOwn = y.at(cell) != '.' && Character.isUpperCase(y.at(cell)) == (side == 0);
+            is = is && (!isNext || strikers(y, cell, 1 - side) == (isOwn ? 0 : 1));
+        }
+        return is;
+    }
+
+    private static int strikers(Bench x, int cell, int side) {
+        int many = 0;
+        for (int from = 0; from < 16; from++) {
+            if (x.at(from) != '.' && Character.isUpperCase(x.at(from)) == (side == 0)) {
+                many += x.reach(from, true) >> cell & 1;
+            }
+        }
+        return many;
     }
 
     private static void told() {

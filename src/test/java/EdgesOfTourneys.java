@@ -71,6 +71,9 @@ final class EdgesOfTourneys {
         x.board(3, 4);
         Due.lay(x, 3, "Ka1");
         x.enter(1, 1);
+        x.board(5, 3);
+        Due.lay(x, 5, "Ka1");
+        x.enter(1, 1);
         x.board(4, 4);
         Due.lay(x, 4, "Ka1 kd3 Qb2 nc2");
         x.turn(1);
@@ -83,8 +86,9 @@ final class EdgesOfTourneys {
             Due.same("the other way about", due[i], x.like(i, 0));
         }
         Due.same("boards of as many cells, turned", 0, x.like(7, 8));
-        Due.same("a board of one row more", 0, x.like(0, 9));
-        Due.same("whoever moves, whatever holds", 4, x.like(9, 10));
+        Due.same("a board of one column more", 0, x.like(7, 9));
+        Due.same("a board of one row more", 0, x.like(0, 10));
+        Due.same("whoever moves, whatever holds", 4, x.like(10, 11));
         Due.same("no men", 0, x.like(6, 6));
     }
 
@@ -158,6 +162,12 @@ final class EdgesOfTourneys {
         }
         Bench passing = rich();
         Due.same("en passant", true, Due.can(passing, 17, 11));
+        for (Bench x : new Bench[] {rich(), EdgesOfHistory.proved(0), EdgesOfHistory.provedForWhite()}) {
+            for (String problem : new String[] {"d2=", "s2#", "h2=", "z3#"}) {
+                x.problem(problem.charAt(0), problem.charAt(1) - '0', problem.charAt(2));
+                Due.same("nor do questions", Due.print(x), Due.print(x, () -> askAll(x)));
+            }
+        }
     }
 
     private static void boardsThrow(Bench x) {
@@ -219,6 +229,37 @@ final class EdgesOfTourneys {
         Due.thrown("prove", Due.MISSING, none, () -> none.prove());
         Due.thrown("undo", Due.MISSING, none, () -> none.undo());
         Due.thrown("games", Due.STATE, none, () -> none.games(1));
+    }
+
+    /** Each question that the face has. */
+    private static void askAll(Bench x) {
+        int many = x.moves();
+        for (int i = 0; i < Math.min(many, 8); i++) {
+            x.moveAt(i, 't');
+            x.told(i, 0);
+            x.sign(i, 1, 2);
+        }
+        x.isCheck(0);
+        x.isAim('=');
+        x.isPure();
+        x.at(0);
+        Due.outcome(() -> x.reach(16, true));
+        Due.outcome(() -> x.solutions());
+        Due.outcome(() -> x.solved(0, 0, 't'));
+        Due.outcome(() -> x.tries());
+        Due.outcome(() -> x.tried(0, true));
+        Due.outcome(() -> x.duals(0));
+        x.isPossible();
+        x.lasts();
+        Due.outcome(() -> x.lastAt(0, 'k'));
+        Due.outcome(() -> x.games(2));
+        Due.outcome(() -> x.like(0, 1));
+        Due.outcome(() -> x.anticipated(0, 1));
+        Due.outcome(() -> x.award(0));
+        Due.outcome(() -> x.meanPoints());
+        x.checksum();
+        x.mobility();
+        x.isSound();
     }
 
     private static void firstListed() {
@@ -526,6 +567,8 @@ final class EdgesOfTourneys {
         Page.says("each last move, made again, leads to it;");
         sound(Due.bench(6, 6, 1, "Pb4 Nf1 Bf2 qf6 rf5 rf4 be6 be5 nd6 nd5"));
         sound(Due.bench(4, 4, 1, "Qa4 Nd4 Ra3 kb1"));
+        sound(Due.bench(4, 4, 1, "Na1 kd4"));
+        sound(Due.bench(4, 4, 0, "qa1"));
         sound(EdgesOfHistory.proved(0));
         sound(EdgesOfHistory.provedForWhite());
         Page.says("and, with a problem that is not too wide, the first move of each solution is a lawful one.");
@@ -536,6 +579,20 @@ final class EdgesOfTourneys {
             proved.problem(problem.charAt(0), problem.charAt(1) - '0', '=');
             sound(proved);
         }
+        sound(EdgesOfProblems.told(3, 3, "kb2 Gc2", "s1="));
+        Retroboard changed = new Retroboard();
+        changed.board(3, 3);
+        changed.man('k', 1, 0);
+        changed.man('k', 0, 2);
+        changed.man('q', 0, 7);
+        changed.problem('d', 2, '#');
+        Due.same("four keys", 4, changed.solutions());
+        changed.lift(7);
+        changed.man('r', 0, 5);
+        Due.same("other ones then", true, changed.isSound());
+        Bench rows = EdgesOfProblems.told(5, 5, "Qb4 pb2", "z3=");
+        Due.same("more rows than moves can ever be", true, rows.solutions() > 256);
+        sound(rows);
         Page.says("Returns true if so.");
         sound(new Bench());
     }
