@@ -1,9 +1,15 @@
 import java.io.IOException;
+import java.lang.reflect.Constructor;
+import java.lang.reflect.Field;
+import java.lang.reflect.Method;
+import java.lang.reflect.Modifier;
 import java.nio.file.Files;
 import java.nio.file.Path;
 import java.util.List;
+import java.util.Set;
+import java.util.TreeSet;
 
-/** Rules of LANGUAGE.md that the text of the program shows; the first argument is its path, if it is told. */
+/** Rules of LANGUAGE.md that the program's text or its classes show; the first argument is the text's path, if told. */
 public final class LanguageTest {
     private static final String[] NEVER = {"->", "::", "catch", "finally", "synchronized", "assert ", "Exact(", "static {",
         "import java.util.*", "System.out", "new Object", ".equals(", "hashCode", "toString", "HashMap", "\\u", "while (true)",
@@ -34,6 +40,37 @@ public final class LanguageTest {
             }
         }
         Due.same("classes are at most 12", true, classes <= 12);
+        Set<String> face = new TreeSet<>();
+        for (Method m : Retroboard.class.getDeclaredMethods()) {
+            if (Modifier.isPublic(m.getModifiers())) {
+                face.add(m.getName());
+            }
+        }
+        Due.same("names of the face", 39, face.size());
+        keeps(Retroboard.class, face);
+        for (Class<?> inside : Retroboard.class.getDeclaredClasses()) {
+            keeps(inside, face);
+            Due.same(inside + " is static", true, Modifier.isStatic(inside.getModifiers()));
+        }
         Due.end("LanguageTest");
+    }
+
+    /** The fields and the parameters are few; what is static is final; no other method bears a name of the face. */
+    private static void keeps(Class<?> c, Set<String> face) {
+        int fields = 0;
+        for (Field f : c.getDeclaredFields()) {
+            boolean isStatic = Modifier.isStatic(f.getModifiers());
+            fields += isStatic ? 0 : 1;
+            Due.same(f + " is final, or an object's", true, !isStatic || Modifier.isFinal(f.getModifiers()));
+        }
+        Due.same(c + " has at most 20 fields", true, fields <= 20);
+        for (Method m : c.getDeclaredMethods()) {
+            boolean isFace = c == Retroboard.class && Modifier.isPublic(m.getModifiers());
+            Due.same(m + " bears a name of its own", true, isFace || !face.contains(m.getName()));
+            Due.same(m + " takes at most 7", true, m.getParameterCount() <= 7);
+        }
+        for (Constructor<?> made : c.getDeclaredConstructors()) {
+            Due.same(made + " takes at most 7", true, made.getParameterCount() <= 7);
+        }
     }
 }
